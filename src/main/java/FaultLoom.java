@@ -379,12 +379,9 @@ public final class FaultLoom {
             tag = 0;
             weight = 0;
             link = null;
-            if (newKind <= GRID) {
-                emptyPlaces();
+            if (newKind > GRID) {
+                return;
             }
-        }
-
-        void emptyPlaces() {
             for (int i = 0; i < ROW_LIMIT; i++) {
                 numbers[i] = 0;
                 points[i] = 0;
