@@ -6,10 +6,9 @@ import java.util.Random;
  * Random programs, run by FaultLoom and by a loom of Java's own arrays, classes, casts and
  * exceptions (the machine may throw there: this is a test). All that can be seen must agree.
  */
-public final class PlainJavaTest {
-    private static final int PROGRAMS = 10000;
-    private static final int ODD_PROGRAMS = 400;
-    private static int wrong = 0;
+public final class PlainJavaTest extends LoomTest {
+    private static final int PROGRAMS = 30000;
+    private static final int ODD_PROGRAMS = 600;
 
     interface Ops {
         int turn(int x);
@@ -361,35 +360,33 @@ public final class PlainJavaTest {
         }
     }
 
-    static void due(String call, long got, long want) {
-        if (got != want && wrong++ < 40) System.out.println(call + " answered " + got + ", due is " + want);
-    }
-
-    /** By bits: a 0 has a sign, too. */
-    static void due(String call, double got, double want) {
-        due(call + " (bits)", Double.doubleToRawLongBits(got), Double.doubleToRawLongBits(want));
-    }
-
-    static void compare(String run, FaultLoom x, Plain p) {
-        for (int r = 0; r < 8; r++) {
-            due(run + "word " + r, x.word(r), p.w[r]);
-            due(run + "kind " + r, x.kind(r), kindOf(p.t[r]));
-            due(run + "size " + r, x.size(r), p.size(p.t[r]));
-            for (int i = -1; i < 13; i++) {
-                due(run + "cell " + r + " " + i, x.cell(r, i), p.cell(p.t[r], i));
-                due(run + "point " + r + " " + i, x.point(r, i), p.point(p.t[r], i));
-            }
-            for (int k = -1; k < 4; k++) due(run + "field " + r + " " + k, x.field(r, k), p.field(p.t[r], k));
-            for (int q = 0; q < 8; q++) {
-                due(run + "same " + r + " " + q, x.same(r, q) ? 1 : 0, p.t[r] != null && p.t[r] == p.t[q] ? 1 : 0);
-            }
-        }
+    static void compareNumbers(String run, Loom x, Plain p) {
         for (int r = 0; r < 4; r++) {
-            due(run + "wide " + r, x.wide(r), p.l[r]);
             due(run + "single " + r, x.single(r), (double) p.f[r]);
             due(run + "real " + r, x.real(r), p.d[r]);
         }
-        for (int i = -1; i < 202; i++) due(run + "told " + i, x.told(i), p.told(i));
+    }
+
+    static void compareThing(String run, Loom x, Plain p, int r) {
+        due(run + "kind " + r, x.kind(r), kindOf(p.t[r]));
+        due(run + "size " + r, x.size(r), p.size(p.t[r]));
+        for (int i = -1; i <= p.size(p.t[r]); i++) {
+            due(run + "cell " + r + " " + i, x.cell(r, i), p.cell(p.t[r], i));
+            due(run + "point " + r + " " + i, x.point(r, i), p.point(p.t[r], i));
+        }
+        for (int k = 0; k < 3; k++) due(run + "field " + r + " " + k, x.field(r, k), p.field(p.t[r], k));
+        for (int q = r; q < 8; q++) due(run + "same " + r + " " + q, x.same(r, q), p.t[r] != null && p.t[r] == p.t[q]);
+    }
+
+    static void compare(String run, Loom x, Plain p) {
+        compareNumbers(run, x, p);
+        for (int r = 0; r < 4; r++) due(run + "wide " + r, x.wide(r), p.l[r]);
+        for (int r = 0; r < 8; r++) {
+            due(run + "word " + r, x.word(r), p.w[r]);
+            compareThing(run, x, p, r);
+        }
+        int last = p.told.size() - 1;
+        for (int i : new int[] {-1, 0, 1, 2, last - 1, last, last + 1, 199, 200}) due(run + "told " + i, x.told(i), p.told(i));
         for (int k = -1; k < 12; k++) due(run + "state " + k, x.state(k), p.state(k));
     }
 
@@ -476,14 +473,14 @@ public final class PlainJavaTest {
         return new int[] {67, r, 4 + z.nextInt(4), r};
     }
 
-    static void add(FaultLoom x, Plain p, int op, int a, int b, int c) {
+    static void add(Loom x, Plain p, int op, int a, int b, int c) {
         p.steps.add(new int[] {op, a, b, c});
         p.status = 0;
         due("put " + op + " " + a + " " + b + " " + c, x.put(op, a, b, c), p.steps.size());
     }
 
     static void program(Random z, int number, long[] worked, long[] failed) {
-        FaultLoom x = new FaultLoom();
+        Loom x = new Loom();
         Plain p = new Plain(worked, failed);
         int[] kinds = new int[8];
         for (int r = 0; r < 8; r++) kinds[r] = z.nextInt(4) == 0 ? 15 : z.nextInt(16);
@@ -518,20 +515,20 @@ public final class PlainJavaTest {
             p.handlers.add(new int[] {from, to, mask, at});
             due("handler", x.handler(from, to, mask, at), p.handlers.size());
         }
-        for (int again = 0; again < 2; again++) {
-            due("start", x.start() ? 1 : 0, p.start() ? 1 : 0);
-            for (int k = 0; k < 6; k++) {
+        // One look at the end of one or two runs: more would be calls beyond the 512th.
+        for (int again = z.nextInt(2); again >= 0; again--) {
+            due("start", x.start(), p.start());
+            for (int k = z.nextInt(6); k >= 0; k--) {
                 int n = z.nextInt(10) == 0 ? 100 : z.nextInt(30);
                 due("program " + number + " step", x.step(n), p.step(n));
-                compare("program " + number + "." + again + " call " + k + ": ", x, p);
-                if (wrong > 40) return;
             }
         }
+        compare("program " + number + ": ", x, p);
     }
 
     /** Long chains of halves and rests, so that the smallest singles and doubles are met. */
     static void halves(Random z, int number, long[] worked, long[] failed) {
-        FaultLoom x = new FaultLoom();
+        Loom x = new Loom();
         Plain p = new Plain(worked, failed);
         for (int r = 0; r < 4; r++) add(x, p, 2, r, z.nextBoolean() ? z.nextInt() : z.nextInt(3) - 1, z.nextInt());
         for (int r = 0; r < 4; r++) add(x, p, 15, r, r, 0);
@@ -550,11 +547,13 @@ public final class PlainJavaTest {
         // A divisor that has come down to 0: on with the numbers of the beginning.
         p.handlers.add(new int[] {0, 199, -1, 4});
         due("handler", x.handler(0, 199, -1, 4), 1);
-        due("start", x.start() ? 1 : 0, p.start() ? 1 : 0);
-        for (int k = 0; k < 60 && wrong <= 40; k++) {
-            due("halves " + number + " step", x.step(51), p.step(51));
-            compare("halves " + number + " call " + k + ": ", x, p);
+        due("start", x.start(), p.start());
+        for (int k = 0; k < 30; k++) {
+            int n = 30 + z.nextInt(71);
+            due("halves " + number + " step", x.step(n), p.step(n));
+            compareNumbers("halves " + number + " call " + k + ": ", x, p);
         }
+        compare("halves " + number + ": ", x, p);
     }
 
     /** put with an operand next to what it may name, and one far from it. */
@@ -571,7 +570,7 @@ public final class PlainJavaTest {
                     v[at] = value;
                     boolean fine = known && (sort == '.' || (value >= low(sort) && value <= high(sort)));
                     due("put " + op + " " + v[0] + " " + v[1] + " " + v[2],
-                        new FaultLoom().put(op, v[0], v[1], v[2]), fine ? 1 : -1);
+                        new Loom().put(op, v[0], v[1], v[2]), fine ? 1 : -1);
                 }
             }
         }
@@ -587,7 +586,6 @@ public final class PlainJavaTest {
         // Programs that never got somewhere would prove nothing.
         for (int op = 0; op < 74; op++) due("operation " + op + " was done often", op == 68 || worked[op] > 60 ? 1 : 0, 1);
         for (int n = 1; n < 24; n++) due("failure " + n + " was met often", failed[n] > 50 ? 1 : 0, 1);
-        System.out.println(wrong == 0 ? "all answers are as due" : wrong + " answers are not as due");
-        if (wrong != 0) System.exit(1);
+        finish();
     }
 }

@@ -1,71 +1,7 @@
 /** Each promise of the document by hand: ordinary inputs, the edges that it names, wrong inputs. */
-public final class PromiseTest {
-    private static final int MIN = Integer.MIN_VALUE;
-    private static final int MAX = Integer.MAX_VALUE;
-    private static int wrong = 0;
-
-    private static void due(String what, long got, long want) {
-        if (got != want) {
-            wrong++;
-            System.out.println(what + " answered " + got + ", due is " + want);
-        }
-    }
-
-    private static void due(String what, boolean got, boolean want) {
-        due(what, got ? 1 : 0, want ? 1 : 0);
-    }
-
-    private static void due(String what, double got, double want) {
-        if (Double.compare(got, want) != 0) {
-            wrong++;
-            System.out.println(what + " answered " + got + ", due is " + want);
-        }
-    }
-
-    /** A step: an operation and as many of a, b, c as are wanted. */
-    private static int[] s(int... parts) {
-        return java.util.Arrays.copyOf(parts, 4);
-    }
-
-    private static FaultLoom loom(int[]... steps) {
-        FaultLoom x = new FaultLoom();
-        for (int k = 0; k < steps.length; k++) {
-            int[] p = steps[k];
-            due("put " + p[0] + " " + p[1] + " " + p[2] + " " + p[3], x.put(p[0], p[1], p[2], p[3]), k + 1);
-        }
-        return x;
-    }
-
-    private static FaultLoom ran(int[]... steps) {
-        FaultLoom x = loom(steps);
-        due("start", x.start(), true);
-        due("step of a run without failures", x.step(100), 1);
-        due("failures", x.state(7), 0);
-        return x;
-    }
-
-    private static int[][] with(int[][] first, int[]... more) {
-        int[][] all = java.util.Arrays.copyOf(first, first.length + more.length);
-        System.arraycopy(more, 0, all, first.length, more.length);
-        return all;
-    }
-
-    /** The last step fails with that number, and nobody handles it. */
-    private static FaultLoom fails(String what, int number, int[]... steps) {
-        FaultLoom x = loom(steps);
-        x.start();
-        due(what + ": step", x.step(100), 2);
-        due(what + ": failure", x.state(8), number);
-        due(what + ": its place", x.state(9), steps.length - 1);
-        due(what + ": where it is", x.state(2), steps.length - 1);
-        due(what + ": failures", x.state(7), 1);
-        due(what + ": steps done", x.state(3), steps.length);
-        due(what + ": stopped", x.state(10), 3);
-        return x;
-    }
-
+public final class PromiseTest extends LoomTest {
     private static void aNewObject() {
-        FaultLoom x = new FaultLoom();
+        Loom x = new Loom();
         for (int r = -1; r < 9; r++) {
             due("new: word", x.word(r), 0);
             due("new: wide", x.wide(r), 0);
@@ -86,7 +22,7 @@ public final class PromiseTest {
     }
 
     private static void put() {
-        FaultLoom x = new FaultLoom();
+        Loom x = new Loom();
         due("put: op -1", x.put(-1, 0, 0, 0), -1);
         due("put: op 74", x.put(74, 0, 0, 0), -1);
         due("put: HALT looks at nothing", x.put(0, -1, MAX, MIN), 1);
@@ -118,7 +54,7 @@ public final class PromiseTest {
         due("put: registers stay", x.word(3), 9);
         due("put: steps done of the latest run", x.state(3), 1);
 
-        x = new FaultLoom();
+        x = new Loom();
         for (int k = 1; k <= 150; k++) due("put: many", x.put(1, 0, k, 0), k);
         x.start();
         due("put: 151st", x.put(1, 0, 0, 0), -2);
@@ -132,7 +68,7 @@ public final class PromiseTest {
     }
 
     private static void handler() {
-        FaultLoom x = loom(s(0));
+        Loom x = loom(s(0));
         due("handler: from", x.handler(-1, 0, 0, 0), -1);
         due("handler: from 200", x.handler(200, 0, 0, 0), -1);
         due("handler: to", x.handler(0, 200, 0, 0), -1);
@@ -197,7 +133,7 @@ public final class PromiseTest {
     private static void handlersThroughCalls() {
         // 0 calls 3, 3 calls 6, 6 fails.
         int[][] steps = {s(29, 3), s(0), s(0), s(29, 6), s(0), s(0), s(7, 0, 0, 0), s(0), s(72, 1), s(0)};
-        FaultLoom x = loom(steps);
+        Loom x = loom(steps);
         x.start();
         due("calls: stopped", x.step(100), 2);
         due("calls: all are given up", x.state(4), 0);
@@ -231,7 +167,7 @@ public final class PromiseTest {
     }
 
     private static void clear() {
-        FaultLoom x = loom(s(1, 2, 5), s(33, 1, 11, 2), s(73, 2), s(0));
+        Loom x = loom(s(1, 2, 5), s(33, 1, 11, 2), s(73, 2), s(0));
         x.handler(0, 1, 1, 1);
         x.start();
         x.step(3);
@@ -247,7 +183,7 @@ public final class PromiseTest {
     }
 
     private static void start() {
-        FaultLoom x = new FaultLoom();
+        Loom x = new Loom();
         due("start: no step", x.start(), false);
         due("start: ended at once", x.state(10), 2);
         due("start: step", x.step(5), 1);
@@ -299,7 +235,7 @@ public final class PromiseTest {
     }
 
     private static void step() {
-        FaultLoom x = loom(s(1, 0, 1), s(1, 0, 2), s(1, 0, 3));
+        Loom x = loom(s(1, 0, 1), s(1, 0, 2), s(1, 0, 3));
         x.start();
         due("step: none", x.step(0), 0);
         due("step: none done", x.state(3), 0);
@@ -335,7 +271,7 @@ public final class PromiseTest {
     }
 
     private static void jumpsAndCalls() {
-        FaultLoom x = ran(s(27, 2), s(1, 0, 1), s(28, 1, 4), s(1, 0, 2), s(1, 2, 3), s(28, 2, 7), s(0), s(1, 0, 4));
+        Loom x = ran(s(27, 2), s(1, 0, 1), s(28, 1, 4), s(1, 0, 2), s(1, 2, 3), s(28, 2, 7), s(0), s(1, 0, 4));
         due("jumps: over the steps", x.word(0), 0);
         due("jumps: not if it is not 0", x.state(2), 6);
         x = ran(s(27, 199));
@@ -370,7 +306,7 @@ public final class PromiseTest {
     }
 
     private static void words() {
-        FaultLoom x = ran(s(1, 0, MAX), s(1, 1, 1), s(4, 2, 0, 1), s(1, 3, MIN), s(5, 4, 3, 1), s(6, 5, 0, 0),
+        Loom x = ran(s(1, 0, MAX), s(1, 1, 1), s(4, 2, 0, 1), s(1, 3, MIN), s(5, 4, 3, 1), s(6, 5, 0, 0),
             s(3, 6, 3), s(25, 7, 3, 0));
         due("word: + wraps", x.word(2), MIN);
         due("word: - wraps", x.word(4), MAX);
@@ -394,7 +330,7 @@ public final class PromiseTest {
     }
 
     private static void longs() {
-        FaultLoom x = ran(s(2, 0, 1, -1), s(2, 1, -1, 0), s(9, 2, 0, 1), s(10, 3, 0, 0), s(14, 0, 0), s(13, 1, 0));
+        Loom x = ran(s(2, 0, 1, -1), s(2, 1, -1, 0), s(9, 2, 0, 1), s(10, 3, 0, 0), s(14, 0, 0), s(13, 1, 0));
         due("wide: c without sign", x.wide(0), 8589934591L);
         due("wide: +", x.wide(2), 4294967295L);
         due("wide: * wraps", x.wide(3), 8589934591L * 8589934591L);
@@ -414,7 +350,7 @@ public final class PromiseTest {
 
     private static void singles() {
         // 2^24 + 1 is halfway between two singles, 2^24 + 3 as well: the even one each time.
-        FaultLoom x = ran(s(2, 0, 0, 16777217), s(2, 1, 0, 16777219), s(15, 0, 0), s(15, 1, 1), s(21, 2, 1),
+        Loom x = ran(s(2, 0, 0, 16777217), s(2, 1, 0, 16777219), s(15, 0, 0), s(15, 1, 1), s(21, 2, 1),
             s(17, 2, 2), s(19, 0, 2));
         due("single: halfway down", x.single(0), 16777216.0);
         due("single: halfway up", x.single(1), 16777220.0);
@@ -452,7 +388,7 @@ public final class PromiseTest {
     }
 
     private static void doubles() {
-        FaultLoom x = ran(s(2, 0, 2097152, 1), s(2, 1, 2097152, 3), s(16, 0, 0), s(16, 1, 1), s(22, 2, 1), s(20, 0, 1),
+        Loom x = ran(s(2, 0, 2097152, 1), s(2, 1, 2097152, 3), s(16, 0, 0), s(16, 1, 1), s(22, 2, 1), s(20, 0, 1),
             s(26, 0, 0, 1), s(26, 1, 1, 0), s(26, 2, 0, 0));
         due("real: halfway down", x.real(0), 9007199254740992.0);
         due("real: halfway up", x.real(1), 9007199254740996.0);
@@ -492,7 +428,7 @@ public final class PromiseTest {
     private static void rests() {
         for (int[] pair : RESTS) {
             for (int halves = 0; halves < 40; halves += 13) {
-                FaultLoom x = loom(s(1, 0, pair[0]), s(13, 0, 0), s(1, 1, pair[1]), s(13, 1, 1), s(16, 0, 0), s(16, 1, 1),
+                Loom x = loom(s(1, 0, pair[0]), s(13, 0, 0), s(1, 1, pair[1]), s(13, 1, 1), s(16, 0, 0), s(16, 1, 1),
                     s(1, 2, halves), s(1, 3, 1), s(28, 2, 12), s(22, 1, 1), s(5, 2, 2, 3), s(27, 8),
                     s(20, 0, 0), s(20, 1, 1), s(23, 2, 0, 1), s(24, 2, 0, 1), s(0));
                 x.start();
@@ -515,7 +451,7 @@ public final class PromiseTest {
         of[14] |= 1 << 16;
         for (int kind = 0; kind < 16; kind++) {
             for (int wanted = 0; wanted < 17; wanted++) {
-                FaultLoom x = ran(make(3, kind), s(1, 0, 9), s(37, 0, 3, wanted), s(1, 1, 9), s(37, 1, 4, wanted));
+                Loom x = ran(make(3, kind), s(1, 0, 9), s(37, 0, 3, wanted), s(1, 1, 9), s(37, 1, 4, wanted));
                 due("kind " + kind + " is of kind " + wanted, x.word(0), of[kind] >> wanted & 1);
                 due("NOTHING is of no kind", x.word(1), 0);
                 due("kind", x.kind(3), kind);
@@ -526,14 +462,9 @@ public final class PromiseTest {
         }
     }
 
-    /** A new thing of that kind in Tr; its places, TAG, number come from W7. */
-    private static int[] make(int r, int kind) {
-        return kind <= 9 ? s(31, r, kind, 7) : kind == 10 ? s(32, r, 7, 7) : kind <= 14 ? s(33, r, kind, 7) : s(67, r, 7, 0);
-    }
-
     private static void sizes() {
         for (int kind = 0; kind < 16; kind++) {
-            FaultLoom x = loom(s(1, 7, 4), make(3, kind), s(38, 0, 3));
+            Loom x = loom(s(1, 7, 4), make(3, kind), s(38, 0, 3));
             x.start();
             boolean row = kind <= 10;
             due("size: step " + kind, x.step(100), row ? 1 : 2);
@@ -546,7 +477,7 @@ public final class PromiseTest {
         }
         due("size: 12 places", ran(s(1, 0, 12), s(31, 0, 7, 0)).size(0), 12);
         due("size: 0 places", ran(s(31, 0, 9, 0)).size(0), 0);
-        FaultLoom x = fails("31: 13 places", 7, s(33, 1, 11, 0), s(1, 0, 13), s(31, 1, 4, 0));
+        Loom x = fails("31: 13 places", 7, s(33, 1, 11, 0), s(1, 0, 13), s(31, 1, 4, 0));
         due("31: nothing is made", x.state(5), 1);
         due("31: nothing is changed", x.kind(1), 11);
         fails("31: -1 places", 3, s(1, 0, -1), s(31, 1, 4, 0));
@@ -578,7 +509,7 @@ public final class PromiseTest {
         fails("room: a grid alone", 7, with(full, s(32, 0, 1, 1)));
         due("room: no more is made", fails("room: again", 7, with(full, s(33, 0, 11, 0))).state(5), 60);
         int[][] some = java.util.Arrays.copyOf(full, 57);
-        FaultLoom x = ran(with(some, s(32, 0, 0, 0)));
+        Loom x = ran(with(some, s(32, 0, 0, 0)));
         due("room: a grid of 3 rows is 4 things", x.state(5), 60);
         x = fails("room: a grid of 4 rows is 5 things", 7, with(some, s(1, 0, 4), s(32, 1, 0, 0)));
         due("room: no part of it is made", x.state(5), 56);
@@ -596,7 +527,7 @@ public final class PromiseTest {
         int[] got = {0, 0, 1, 0, 44, 127, 4464, 65535, -25536, 25536, MIN, MAX};
         for (int k = 2; k < 12; k++) {
             int kind = k / 2 - 1;
-            FaultLoom x = ran(s(1, 7, 3), make(1, kind), s(1, 0, put[k]), s(1, 1, 2), s(49 + kind, 0, 1, 1), s(39 + kind, 5, 1, 1),
+            Loom x = ran(s(1, 7, 3), make(1, kind), s(1, 0, put[k]), s(1, 1, 2), s(49 + kind, 0, 1, 1), s(39 + kind, 5, 1, 1),
                 s(1, 6, 9), s(39 + kind, 6, 1, 2));
             due("cell of kind " + kind, x.cell(1, 2), got[k]);
             due("GET of kind " + kind, x.word(5), got[k]);
@@ -608,7 +539,7 @@ public final class PromiseTest {
             due("cell: T8", x.cell(8, 0), 0);
             due("cell: T-1", x.cell(-1, 0), 0);
         }
-        FaultLoom x = ran(s(1, 7, 12), make(1, 5), s(2, 0, MIN, 1), s(1, 1, 11), s(54, 0, 1, 1), s(44, 2, 1, 1));
+        Loom x = ran(s(1, 7, 12), make(1, 5), s(2, 0, MIN, 1), s(1, 1, 11), s(54, 0, 1, 1), s(44, 2, 1, 1));
         due("cell of LONGS", x.cell(1, 11), Long.MIN_VALUE + 1);
         due("GET of LONGS", x.wide(2), Long.MIN_VALUE + 1);
         for (int kind = 8; kind < 10; kind++) {
@@ -633,7 +564,7 @@ public final class PromiseTest {
     }
 
     private static void points() {
-        FaultLoom x = ran(s(1, 7, 3), make(1, 6), make(2, 7), s(2, 0, -1, -3), s(15, 0, 0), s(21, 0, 0), s(16, 0, 0), s(22, 0, 0),
+        Loom x = ran(s(1, 7, 3), make(1, 6), make(2, 7), s(2, 0, -1, -3), s(15, 0, 0), s(21, 0, 0), s(16, 0, 0), s(22, 0, 0),
             s(22, 0, 0), s(1, 1, 2), s(55, 0, 1, 1), s(56, 0, 2, 1), s(45, 3, 1, 1), s(46, 3, 2, 1));
         due("point of SINGLES", x.point(1, 2), -1.5);
         due("point of DOUBLES", x.point(2, 2), -0.75);
@@ -652,7 +583,7 @@ public final class PromiseTest {
     }
 
     private static void fields() {
-        FaultLoom x = ran(s(1, 0, -5), s(33, 1, 11, 0), s(33, 2, 12, 0), s(33, 3, 13, 0), s(33, 4, 14, 0), s(67, 5, 0, 7), s(67, 6, 0, 5),
+        Loom x = ran(s(1, 0, -5), s(33, 1, 11, 0), s(33, 2, 12, 0), s(33, 3, 13, 0), s(33, 4, 14, 0), s(67, 5, 0, 7), s(67, 6, 0, 5),
             s(2, 0, 7, 0), s(62, 0, 3), s(64, 2, 3), s(1, 2, 44), s(60, 2, 1), s(59, 3, 1), s(61, 1, 3), s(63, 7, 3), s(70, 4, 6));
         due("field: a knot's TAG", x.field(1, 0), 44);
         due("field: a ring's TAG", x.field(2, 0), -5);
@@ -683,20 +614,20 @@ public final class PromiseTest {
         int[] kinds = {11, 12, 13, 14};
         long[] due = {12, 12, 25, 35};
         for (int k = 0; k < 4; k++) {
-            FaultLoom x = loom(s(1, 0, 7), s(1, 1, 5), s(33, 0, kinds[k], 0), s(66, 2, 0, 1), s(65, 3, 0, 1));
+            Loom x = loom(s(1, 0, 7), s(1, 1, 5), s(33, 0, kinds[k], 0), s(66, 2, 0, 1), s(65, 3, 0, 1));
             x.start();
             due("TURN: step " + kinds[k], x.step(100), kinds[k] == 14 ? 2 : 1);
             due("66: the TURN of " + kinds[k], x.word(2), due[k]);
             due("65: the TURN of " + kinds[k], x.word(3), kinds[k] == 14 ? 0 : due[k]);
         }
-        FaultLoom x = ran(s(1, 0, MAX), s(33, 0, 11, 0), s(33, 1, 13, 0), s(33, 2, 14, 0), s(66, 1, 0, 0), s(66, 2, 1, 0), s(66, 3, 2, 0));
+        Loom x = ran(s(1, 0, MAX), s(33, 0, 11, 0), s(33, 1, 13, 0), s(33, 2, 14, 0), s(66, 1, 0, 0), s(66, 2, 1, 0), s(66, 3, 2, 0));
         due("TURN of a KNOT wraps", x.word(1), -2);
         due("TURN of a BOW wraps", x.word(2), -3);
         due("TURN of a SLIP wraps", x.word(3), 1);
     }
 
     private static void same() {
-        FaultLoom x = ran(s(33, 0, 11, 0), s(34, 1, 0), s(33, 2, 11, 0), s(36, 0, 0, 1), s(36, 1, 0, 2), s(36, 2, 5, 6), s(36, 3, 0, 5));
+        Loom x = ran(s(33, 0, 11, 0), s(34, 1, 0), s(33, 2, 11, 0), s(36, 0, 0, 1), s(36, 1, 0, 2), s(36, 2, 5, 6), s(36, 3, 0, 5));
         due("same: copied", x.same(0, 1), true);
         due("same: itself", x.same(2, 2), true);
         due("same: another one", x.same(0, 2), false);
@@ -711,7 +642,7 @@ public final class PromiseTest {
     }
 
     private static void told() {
-        FaultLoom x = loom(s(1, 1, 1), s(4, 0, 0, 1), s(73, 0), s(27, 1));
+        Loom x = loom(s(1, 1, 1), s(4, 0, 0, 1), s(73, 0), s(27, 1));
         x.start();
         for (int k = 0; k < 7; k++) x.step(100);
         due("told: first", x.told(0), 1);
@@ -731,7 +662,7 @@ public final class PromiseTest {
 
     private static void faults() {
         for (int n = -1; n < 17; n++) {
-            FaultLoom x = loom(s(1, 0, n), s(67, 1, 0, 0), s(67, 2, 0, 1), s(68, 2), s(0), s(69, 3), s(72, 4), s(70, 5, 3), s(71, 6, 3), s(71, 7, 6));
+            Loom x = loom(s(1, 0, n), s(67, 1, 0, 0), s(67, 2, 0, 1), s(68, 2), s(0), s(69, 3), s(72, 4), s(70, 5, 3), s(71, 6, 3), s(71, 7, 6));
             x.handler(0, 4, 1 << (8 + (n & 15)), 5);
             x.start();
             due("faults: handled", x.step(100), 1);
@@ -743,7 +674,7 @@ public final class PromiseTest {
             due("faults: state 8", x.state(8), 8 + (n & 15));
         }
         // A failure that is none of 68 takes the fault away again.
-        FaultLoom x = loom(s(67, 1, 0, 0), s(68, 1), s(69, 2), s(7, 0, 0, 0), s(69, 3), s(72, 1));
+        Loom x = loom(s(67, 1, 0, 0), s(68, 1), s(69, 2), s(7, 0, 0, 0), s(69, 3), s(72, 1));
         x.handler(1, 2, -1, 2);
         x.handler(3, 4, -1, 4);
         x.start();
@@ -803,7 +734,7 @@ public final class PromiseTest {
     }
 
     private static void state() {
-        FaultLoom x = loom(s(29, 2), s(0), s(33, 0, 11, 0), s(73, 0), s(7, 0, 0, 0), s(73, 0));
+        Loom x = loom(s(29, 2), s(0), s(33, 0, 11, 0), s(73, 0), s(7, 0, 0, 0), s(73, 0));
         x.handler(4, 5, 1 << 6, 5);
         x.start();
         x.step(4);
@@ -848,7 +779,6 @@ public final class PromiseTest {
         faults();
         failuresInTheirOrder();
         state();
-        System.out.println(wrong == 0 ? "all answers are as due" : wrong + " answers are not as due");
-        if (wrong != 0) System.exit(1);
+        finish();
     }
 }
