@@ -84,7 +84,7 @@ abstract class LoomTest {
     /** To its end, if that is not far. */
     static int run(Loom x) {
         int answer = 0;
-        for (int k = 0; k < 40 && answer == 0; k++) answer = x.step(100);
+        for (int k = 0; k < 100 && answer == 0; k++) answer = x.step(100);
         return answer;
     }
 
@@ -131,6 +131,19 @@ abstract class LoomTest {
         due(what + ": on at the handler's place", state(behind, 2), last + 1);
         sameBut(what + " changes nothing", before, behind, "state 2", "state 3", "state 7", "state 8", "state 9");
         return x;
+    }
+
+    /** The step behind those fails with that number, nobody handles it, and all that can be seen is as without it. */
+    static void stopsAndChangesNothing(String what, int number, int[][] first, int[] step) {
+        Loom x = started(with(first, step));
+        due(what + ": stops", run(x), 2);
+        long[] without = seen(ran(first));
+        long[] behind = seen(x);
+        due(what + ": failure", state(behind, 8), number);
+        due(what + ": its place", state(behind, 9), first.length);
+        due(what + ": it is done, too", state(behind, 3), state(without, 3) + 1);
+        due(what + ": all CALLs are given up", state(behind, 4), 0);
+        sameBut(what + " changes nothing", without, behind, "state 0", "state 3", "state 4", "state 7", "state 8", "state 9", "state 10");
     }
 
     // Where each answer stands in what seen gives.
