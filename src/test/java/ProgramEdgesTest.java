@@ -101,6 +101,32 @@ public final class ProgramEdgesTest extends LoomTest {
         }
     }
 
+    /** "(those that are not named are not looked at)": a step does the same, whatever they are. */
+    private static void operandsThatAreNotNamed() {
+        for (int op = 0; op <= 73; op++) {
+            String names = NAMES.substring(4 * op, 4 * op + 3);
+            int[] plain = {op, 0, 0, 0};
+            for (int at = 0; at < 3; at++) plain[at + 1] = names.charAt(at) == '.' ? 0 : Math.max(lowest(names.charAt(at)), 3);
+            long[] due = seen(ranWith(plain));
+            for (int value : new int[] {MIN, -1, 3, 4, 8, 200, MAX}) {
+                int[] odd = plain.clone();
+                for (int at = 0; at < 3; at++) if (names.charAt(at) == '.' && !isNumber(op, at)) odd[at + 1] = value;
+                sameBut(op + " with " + value + " where nothing is named", due, seen(ranWith(odd)));
+            }
+        }
+    }
+
+    /** The numbers that 1 and 2 give are looked at, though any is right. */
+    private static boolean isNumber(int op, int at) {
+        return op == 1 && at == 1 || op == 2 && at >= 1;
+    }
+
+    private static Loom ranWith(int[] step) {
+        Loom x = started(with(BUSY, step, s(73, 1), s(73, 2)));
+        x.step(100);
+        return x;
+    }
+
     /** "One more step: how many there are."; "else -2: there are 150." */
     private static void putIsFull() {
         Loom x = new Loom();
@@ -430,6 +456,7 @@ public final class ProgramEdgesTest extends LoomTest {
         aNewObject();
         putOperations();
         putOperands();
+        operandsThatAreNotNamed();
         putIsFull();
         putThatIsRefused();
         putEndsTheRun();
