@@ -44,9 +44,11 @@ public final class RunEdgesTest extends LoomTest {
                 }
             }
         }
-        // RETURN to the place behind the last step.
-        Loom x = ran(s(27, 2), s(30), s(29, 1));
-        states("RETURN behind the last step", x, 2, 3, 3, 3, 4, 0, 10, 2);
+        // RETURN to the place behind the last step, be it the 150th.
+        for (int last : new int[] {2, 3, 148, 149}) {
+            Loom x = ran(with(with(new int[][] {s(27, last), s(30)}, times(last - 2, 0)), s(29, 1)));
+            states("RETURN behind the last step, " + last, x, 2, last + 1, 3, 3, 4, 0, 10, 2);
+        }
     }
 
     /** "28 on at place b, if Wa is 0." */
